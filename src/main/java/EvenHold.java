@@ -655,7 +655,7 @@ public final class EvenHold {
         }
 
         void leaveHead(Lighter lighter, int bend) {
-            int lying = head[bend];
+            int lying = bend >= 0 && bend < head.length ? head[bend] : END;
             if (lying < 0 || lying >= LYINGS) {
                 return;
             }

@@ -332,6 +332,12 @@ public final class PromisesTest {
         EvenHold within = with("b00,b20,b00;19");
         due("soonest(0) with carrying", within.soonest(0), 6);
         due("soonest(1) with carrying", within.soonest(1), 18);
+        EvenHold again = with("b11,b11,b11;99");
+        due("soonest(0) of the first hold", again.soonest(0), 12);
+        typed(again, "d11,d11,d11;99").hold();
+        due("soonest(0) of another that lies alike", again.soonest(0), 24);
+        typed(again, "d11,d11,d11;90").hold();
+        due("soonest(0) of another with less list", again.soonest(0), NONE);
         for (int what : new int[] {-1, 2, MIN, MAX}) refused("soonest(" + what + ")", x, OUTSIDE, y -> y.soonest(what));
     }
 
@@ -380,6 +386,8 @@ public final class PromisesTest {
         due("leastBend() of none", with("b00,b00,b00;99").leastBend(), 0);
         due("leastBend() of one ton in the middle", with("b00,b10,b00;09").leastBend(), 0);
         due("leastBend() of two in the middle", with("b00,b20,b00;09").leastBend(), 1);
+        // Full cells: taking leaves her BENT by 10, carrying to an end by 9.
+        due("leastBend() of a full middle", with("b00,b33,b00;01").leastBend(), 9);
         due("leastBend() by list 0", with("b00,b10,b00;90").leastBend(), 0);
         due("leastBend() of two, list 0", with("b00,b11,b00;90").leastBend(), NONE);
         EvenHold x = with("b33,b33,b33;01");
