@@ -251,6 +251,19 @@ public final class ActsBoundsTest {
         Bounds.due("holds() of all 18", Bounds.with("b33,b33,b33;99").holds(), borne);
     }
 
+    /** A way that is come to slowly first and sooner later, as by a DEEP middle, is one way. */
+    private static void unlikeWays() {
+        for (int kinds = 0; kinds < 125; kinds++) {
+            String told = "" + "bnfhd".charAt(kinds % 5) + "bnfhd".charAt(kinds / 5 % 5) + "bnfhd".charAt(kinds / 25);
+            for (int cell = 0; cell < 6; cell++) {
+                int[] cells = new int[6];
+                cells[cell] = 1;
+                String hold = Bounds.text(told, cells, 9, 9);
+                Bounds.due("holds() of " + hold + ": six cells, and out", Bounds.with(hold).holds(), 7);
+            }
+        }
+    }
+
     private static void asTheyDoNowToo() {
         // She does not bear how they lie now, and can't come back to it.
         EvenHold x = Bounds.with("b00,b10,b00;19");
@@ -407,6 +420,7 @@ public final class ActsBoundsTest {
         Bounds.sentence("13 how many tons can be TAKEN out at most", ActsBoundsTest::mostTons);
         Bounds.sentence("13 AGROUND or not as now; from now", ActsBoundsTest::mostFromNow);
         Bounds.sentence("14 how many unlike ways tons can lie can be come to", ActsBoundsTest::howManyWays);
+        Bounds.sentence("14 unlike ways (each counted once)", ActsBoundsTest::unlikeWays);
         Bounds.sentence("14 (as they do now, too)", ActsBoundsTest::asTheyDoNowToo);
         Bounds.sentence("14 AGROUND or not as now; from now", ActsBoundsTest::holdsFromNow);
         Bounds.sentence("13, 14, 15 STATE: no HOLD", ActsBoundsTest::withoutAHold);
